@@ -25,6 +25,7 @@ public final class PromisesTest {
         of();
         hold();
         holdsOfDoubles();
+        holdsOfDoublesOnTheLastStrings();
         hard();
         hardAtSlursAndRests();
         finger();
@@ -36,6 +37,8 @@ public final class PromisesTest {
         alike();
         union();
         many();
+        fullParts();
+        cutNotesAreForgotten();
         System.out.println(wrong == 0 ? "all answers are as due" : wrong + " answers are not as due");
         if (wrong != 0) {
             System.exit(1);
@@ -270,6 +273,24 @@ public final class PromisesTest {
         holdsAre("8: sixth", x, 0, 0, 14, 18, 23, 37, 39, 44, 48, 53, 67, 72, 86, 91);
     }
 
+    private static void holdsOfDoublesOnTheLastStrings() {
+        FourStrings x = part(26, 0);
+        x.tune(0, 60);
+        x.tune(1, 60);
+        x.stop(0, 0, 33);
+        holdsAre("8: strings 2 and 3", x, 0, 0, 2069, 2074, 2074, 2078, 2078, 2083, 2097, 2102, 2116, 2121);
+        FourStrings y = part(15, 0);
+        y.tune(0, 60);
+        y.tune(1, 60);
+        y.tune(2, 21);
+        y.tune(3, 14);
+        y.stop(0, 0, 22);
+        holdsAre("8: the greater pitch on the lesser string", y, 0, 0, 2011);
+        y.tune(2, 60);
+        y.tune(1, 21);
+        holdsAre("8: strings 1 and 3 aren't side by side", y, 0, 0);
+    }
+
     private static void hard() {
         FourStrings x = new FourStrings();
         due("9: no notes", x.hard(0), 0);
@@ -354,6 +375,9 @@ public final class PromisesTest {
         due("10: the least name: string", y.finger(0, 0, 0), 0);
         due("10: the least name: hand", y.finger(0, 0, 1), 2);
         due("10: the least name: finger", y.finger(0, 0, 2), 2);
+        FourStrings w = part(0, 0, 4, 0);
+        // behind the open string hands 2 and 4 cost the same
+        due("10: the least name of a later note", w.finger(0, 1, 1), 2);
         FourStrings z = part(6, 0, 11, 0);
         for (int s = 1; s < 4; s++) {
             z.tune(s, 60);
@@ -501,6 +525,9 @@ public final class PromisesTest {
         due("14: direction -1", x.strokes(0, -1, 0), NUMBER);
         due("14: part 3", x.strokes(3, 0, 0), NUMBER);
         due("14: part -1", x.strokes(-1, 0, 0), NUMBER);
+        FourStrings y = part(0, 4, 0, 4, 0, 4);
+        due("14: hooks alone", y.strokes(0, 0, 0), 2);
+        due("14: strokes of hooks", y.strokes(0, 0, 2), 3);
         x.mark(0, 0, 4);
         due("14: none", x.strokes(0, 1, 2), NONE);
         due("14: NUMBER ahead of NONE", x.strokes(0, 1, 3), NUMBER);
@@ -578,7 +605,7 @@ public final class PromisesTest {
         add(x, 1, 0, 0, 0, 2);
         add(x, 2, 5, 0);
         x.stop(2, 0, 6);
-        x.stop(1, 1, 7);
+        x.stop(0, 1, 7);
         due("17: notes of 0", x.many(0), 3);
         due("17: notes of 1", x.many(1), 2);
         due("17: notes of 2", x.many(2), 1);
@@ -595,5 +622,62 @@ public final class PromisesTest {
         due("17: slurred again", x.many(5), 2);
         x.cut(2);
         due("17: alike again", x.many(3), 2);
+    }
+
+    /** Twelve notes in each part: nothing may be left out, and no row may be too short. */
+    private static void fullParts() {
+        FourStrings x = new FourStrings();
+        for (int s = 1; s < 4; s++) {
+            x.tune(s, 60);
+        }
+        for (int p = 0; p < 3; p++) {
+            for (int n = 0; n < 12; n++) {
+                x.note(p, n % 2 == 0 ? 1 : 18, 16, p == 0 ? 0 : 4);
+            }
+        }
+        due("full: hard", x.hard(0), 11 * 22 + 6);
+        due("full: shifts", x.shifts(0), 11);
+        due("full: last hand", x.finger(0, 11, 1), 12);
+        due("full: last onset", x.of(0, 11, 4), 176);
+        due("full: bow", x.bow(0, 1), 0);
+        due("full: last stroke", x.stroke(0, 11, 1), 0);
+        due("full: hooks cost", x.bow(1, 0), 33);
+        due("full: hooks", x.strokes(1, 0, 0), 11);
+        due("full: strokes", x.strokes(2, 0, 2), 12);
+        due("full: parted", x.strokes(2, 0, 1), 0);
+        due("full: alike", x.many(3), 36);
+        due("full: union", x.union(0), 0);
+        due("full: its sum", x.union(1), 66 + 4 * 12);
+        due("full: its unlike ones", x.union(2), 12);
+        due("full: doubles", x.many(4), 0);
+        due("full: slurred", x.many(5), 0);
+        due("full: without fingering", x.many(6), 0);
+        for (int n = 1; n < 12; n++) {
+            x.mark(2, n, 6);
+        }
+        due("full: all slurred", x.many(5), 11);
+        due("full: one stroke", x.strokes(2, 0, 2), 1);
+        due("full: no fingering within the slur", x.many(6), 1);
+    }
+
+    private static void cutNotesAreForgotten() {
+        FourStrings x = new FourStrings();
+        for (int p = 0; p < 2; p++) {
+            add(x, p, 0, 0, 80, 4, 80, 6);
+            x.stop(p, 2, -1);
+        }
+        x.cut(0);
+        x.cut(0);
+        x.cut(1);
+        x.cut(1);
+        due("6: alike", x.many(3), 1);
+        due("6: slurred", x.many(5), 0);
+        due("6: without fingering", x.many(6), 0);
+        due("6: bow", x.bow(0, 0), 0);
+        due("6: strokes", x.strokes(0, 0, 2), 1);
+        due("6: hard", x.hard(0), 0);
+        due("6: union", x.union(0), 0);
+        x.cut(1);
+        due("6: none alike", x.many(3), 0);
     }
 }
