@@ -193,7 +193,7 @@ public final class FourStrings {
         }
         int count = 0;
         for (int n = 1; n < its.count; n++) {
-            if (Key.isShift(its.fingering[n - 1], its.fingering[n])) {
+            if (Key.shift(its.fingering[n - 1], its.fingering[n]) != 0) {
                 count++;
             }
         }
@@ -502,7 +502,8 @@ public final class FourStrings {
         static final int LIMIT = 10;
         private static final int HIGH = 5;
         private static final int HANDS = 12;
-        private static final int[] STEPS = {0, 0, 2, 4, 5};
+        /** By ways: how far above its hand the finger stands; 0 where there is no such way. */
+        private static final int[] STEPS = {0, 0, 2, 4, 5, 0, 1, 3, 5, 6};
 
         static int fingerOf(int way) {
             return way % HIGH;
@@ -517,11 +518,11 @@ public final class FourStrings {
             if (way == OPEN) {
                 return height == 0 ? 0 : -1;
             }
-            if (isOutside(way, 1, LIMIT - 1) || way == HIGH) {
+            if (way < 1 || way >= LIMIT || way == HIGH) {
                 return -1;
             }
-            int hand = height - STEPS[fingerOf(way)] - extension(way);
-            return isOutside(hand, 1, HANDS) ? -1 : hand;
+            int hand = height - STEPS[way];
+            return hand < 1 || hand > HANDS ? -1 : hand;
         }
 
         /** Whether one hand can take both at once. */
@@ -529,7 +530,7 @@ public final class FourStrings {
             if (way == OPEN || otherWay == OPEN) {
                 return true;
             }
-            return hand == otherHand && (way == otherWay || fingerOf(way) != fingerOf(otherWay));
+            return hand == otherHand && (way == otherWay || way % HIGH != otherWay % HIGH);
         }
     }
 
@@ -564,11 +565,14 @@ public final class FourStrings {
         }
 
         static int extensions(int key) {
-            return Way.extension(way(key)) + Way.extension(greaterWay(key));
+            return Way.extension(key / 10 % 10) + Way.extension(key % 10);
         }
 
-        static boolean isShift(int before, int key) {
-            return hand(before) != 0 && hand(key) != 0 && hand(before) != hand(key);
+        /** How far the hand goes from one hold to another; 0 also where one of them needs none. */
+        static int shift(int before, int key) {
+            int from = before / 100 % 100;
+            int to = key / 100 % 100;
+            return from == 0 || to == 0 ? 0 : Math.abs(to - from);
         }
     }
 
@@ -646,69 +650,67 @@ public final class FourStrings {
 
         /** Puts THE FINGERING into the part: what it costs, or NEVER if there is none. */
         int findFingering(int[] open, Part part) {
-            int last = part.count - 1;
-            if (last < 0) {
+            if (part.count <= 0) {
                 return 0;
             }
-            for (int n = last; n >= 0; n--) {
+            for (int n = part.count - 1; n >= 0; n--) {
                 listHolds(open, part, n);
-                reckonCosts(part, n, n == last);
+                for (int i = 0; i < counts[n]; i++) {
+                    costs[n][i] = costFrom(part, n, keys[n][i]);
+                }
             }
-            return followLeast(part);
+            int first = leastFirst();
+            if (first < 0) {
+                return NEVER;
+            }
+            part.fingering[0] = keys[0][first];
+            for (int n = 1; n < part.count; n++) {
+                part.fingering[n] = leastNext(part, n, part.fingering[n - 1]);
+            }
+            return costs[0][first];
         }
 
-        private void reckonCosts(Part part, int note, boolean isLast) {
-            for (int i = 0; i < counts[note]; i++) {
-                int key = keys[note][i];
-                int behind = isLast ? 0 : leastBehind(part, note + 1, key);
-                costs[note][i] = Math.min(NEVER, Key.extensions(key) + behind);
+        /** What a hold of a note and all behind it cost at least; those behind must be reckoned. */
+        private int costFrom(Part part, int note, int key) {
+            int next = note + 1;
+            int behind = 0;
+            if (next < part.count) {
+                behind = NEVER;
+                for (int i = 0; i < counts[next]; i++) {
+                    behind = Math.min(behind, costs[next][i] + stepCost(key, keys[next][i], part.marks[next]));
+                }
             }
-        }
-
-        private int leastBehind(Part part, int note, int before) {
-            int least = NEVER;
-            for (int i = 0; i < counts[note]; i++) {
-                least = Math.min(least, costFrom(part, note, before, i));
-            }
-            return least;
-        }
-
-        /** What a hold of a note and all behind it cost, if the one ahead has the hold before. */
-        private int costFrom(Part part, int note, int before, int i) {
-            return costs[note][i] + stepCost(before, keys[note][i], part.marks[note]);
+            return Math.min(NEVER, behind + Key.extensions(key));
         }
 
         private static int stepCost(int before, int key, int marks) {
-            int cost = Math.abs(Key.string(key) - Key.string(before));
-            if (!Key.isShift(before, key) || (marks & (REST | FREE_SHIFT)) != 0) {
-                return cost;
+            int strings = Math.abs(Key.string(key) - Key.string(before));
+            int hands = Key.shift(before, key);
+            if (hands == 0 || (marks & (REST | FREE_SHIFT)) != 0) {
+                return strings;
             }
-            if ((marks & SLURRED) != 0) {
-                return NEVER;
-            }
-            return cost + 2 * Math.abs(Key.hand(key) - Key.hand(before));
+            return (marks & SLURRED) != 0 ? NEVER : strings + 2 * hands;
         }
 
-        /** Goes from the first note on; of equal costs the first is taken, whose key is the least. */
-        private int followLeast(Part part) {
-            int cost = NEVER;
+        /** Of equal costs the first one, whose key is the least; -1 if no hold can begin. */
+        private int leastFirst() {
+            int least = NEVER;
+            int first = -1;
             for (int i = 0; i < counts[0]; i++) {
-                if (costs[0][i] < cost) {
-                    cost = costs[0][i];
-                    part.fingering[0] = keys[0][i];
+                if (costs[0][i] < least) {
+                    least = costs[0][i];
+                    first = i;
                 }
             }
-            for (int n = 1; n < part.count && cost < NEVER; n++) {
-                part.fingering[n] = leastNext(part, n, part.fingering[n - 1]);
-            }
-            return cost;
+            return first;
         }
 
+        /** The key of the hold that goes on best behind another; of equal costs the least key. */
         private int leastNext(Part part, int note, int before) {
             int least = NEVER;
             int key = 0;
             for (int i = 0; i < counts[note]; i++) {
-                int cost = costFrom(part, note, before, i);
+                int cost = costs[note][i] + stepCost(before, keys[note][i], part.marks[note]);
                 if (cost < least) {
                     least = cost;
                     key = keys[note][i];
