@@ -1,3 +1,4 @@
+import java.util.Arrays;
 import java.util.Random;
 
 /** No call throws for any arguments, and a refused call changes nothing. */
@@ -5,10 +6,11 @@ public final class SafetyTest {
     private static final int[] ODD = {Integer.MIN_VALUE, Integer.MIN_VALUE + 1, -1000, -10, -9, -5, -4, -3,
         -2, -1, 0, 1, 2, 3, 4, 5, 6, 7, 8, 11, 12, 13, 14, 15, 16, 17, 20, 21, 59, 60, 61, 79, 80, 81, 1000,
         Integer.MAX_VALUE - 1, Integer.MAX_VALUE};
+    private static final int CALLS = 512;
     private static int wrong = 0;
 
     public static void main(String[] args) {
-        for (int run = 0; run < 400; run++) {
+        for (int run = 0; run < 2000; run++) {
             drawnRun(new Random(104729L * run));
         }
         mostHolds();
@@ -18,27 +20,41 @@ public final class SafetyTest {
         }
     }
 
+    /** The same calls on two objects, but that the second one never sees a refused change. */
     private static void drawnRun(Random random) {
         FourStrings x = new FourStrings();
-        for (int i = 0; i < 20; i++) {
-            x.note(random.nextInt(3), random.nextInt(81), 1 + random.nextInt(16), random.nextInt(16));
-        }
-        for (int i = 0; i < 200; i++) {
-            int[] a = new int[5];
+        FourStrings twin = new FourStrings();
+        for (int i = 0; i < CALLS; i++) {
+            int[] a = new int[4];
             for (int k = 0; k < a.length; k++) {
-                a[k] = random.nextInt(3) == 0 ? random.nextInt(3) : ODD[random.nextInt(ODD.length)];
+                a[k] = random.nextInt(3) != 0 ? random.nextInt(3) : ODD[random.nextInt(ODD.length)];
             }
-            call(x, random.nextInt(16), a);
+            boolean isNote = i < 20 || random.nextInt(8) == 0;
+            int which = isNote ? 1 : random.nextInt(16);
+            if (isNote && random.nextInt(4) != 0) {
+                a = new int[] {random.nextInt(3), random.nextInt(81), 1 + random.nextInt(16), random.nextInt(16)};
+            }
+            compare(x, twin, which, a);
         }
     }
 
-    private static void call(FourStrings x, int which, int[] a) {
-        String before = which < 5 ? state(x) : "";
-        int got = which < 5 ? change(x, which, a) : ask(x, which, a);
+    private static void compare(FourStrings x, FourStrings twin, int which, int[] a) {
+        if (which >= 5) {
+            same(which, a, ask(x, which, a), ask(twin, which, a));
+            return;
+        }
+        int got = change(x, which, a);
         boolean isRefused = which == 2 ? got == -9 : got < 0;
-        if (which < 5 && isRefused && !before.equals(state(x))) {
+        if (!isRefused) {
+            same(which, a, got, change(twin, which, a));
+        }
+    }
+
+    private static void same(int which, int[] a, int got, int want) {
+        if (got != want) {
             wrong++;
-            System.out.println("the refused call " + which + " changed something");
+            System.out.println("call " + which + Arrays.toString(a) + " answered " + got + ", without the refused"
+                    + " ones ahead of it " + want);
         }
     }
 
@@ -84,21 +100,7 @@ public final class SafetyTest {
         }
     }
 
-    /** Every answer that tells of the notes; the tuning shows in how many holds there are. */
-    private static String state(FourStrings x) {
-        StringBuilder all = new StringBuilder();
-        for (int p = 0; p < 3; p++) {
-            all.append(x.many(p)).append(' ').append(x.hard(p)).append(':');
-            for (int n = 0; n < x.many(p); n++) {
-                for (int what = 0; what < 6; what++) {
-                    all.append(x.of(p, n, what)).append(' ');
-                }
-            }
-        }
-        return all.toString();
-    }
-
-    /** All strings alike have the most holds: all of them must be listed, rising. */
+    /** Strings near to one another have many holds: all of them must be listed, rising. */
     private static void mostHolds() {
         for (int open = 0; open <= 3; open++) {
             for (int second = 11; second < 30; second++) {
