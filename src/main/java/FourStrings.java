@@ -565,7 +565,7 @@ public final class FourStrings {
         }
 
         static int extensions(int key) {
-            return Way.extension(key / 10 % 10) + Way.extension(key % 10);
+            return Way.extension(way(key)) + Way.extension(greaterWay(key));
         }
 
         /** How far the hand goes from one hold to another; 0 also where one of them needs none. */

@@ -301,6 +301,22 @@ public final class CallsBoundsTest {
         }
     }
 
+    // 6: .. goes: what it asked of the bow goes with it, though the bow was worked out before.
+    private static void cutChangesBows() {
+        FourStrings x = lone(0, 0, 0, 0, 0, 6);
+        due("6: up and parted, or hooked", x.bow(0, 0), 2);
+        x.cut(0);
+        due("6: up", x.bow(0, 0), 0);
+        due("6: the last one goes up", x.stroke(0, 1, 0), 1);
+        FourStrings y = lone(0, 0, 0, 4, 0, 4);
+        due("6: two hooks", y.bow(0, 0), 6);
+        y.cut(0);
+        due("6: one hook", y.bow(0, 0), 3);
+        due("6: one of the strokes", y.strokes(0, 0, 0), 1);
+        y.cut(0);
+        due("6: no hook", y.bow(0, 0), 0);
+    }
+
     // 7: Of a NOTE: what = 0 PITCH .. 5 how many HOLDS. NUMBER: there is no such PART, NOTE, another
     // what.
     private static void of() {
@@ -625,6 +641,7 @@ public final class CallsBoundsTest {
         mark();
         markChangesFingersAndBows();
         cut();
+        cutChangesBows();
         of();
         hold();
         holdsWithLikeNames();

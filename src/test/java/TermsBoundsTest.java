@@ -341,7 +341,32 @@ public final class TermsBoundsTest {
         holdsAre("on the strings 2 and 3", pair(tuned(60, 60, 0, 0), 1, 3), 0, 2011, 2012);
         holdsAre("on three strings", pair(tuned(0, 0, 0, 60), 1, 3), 0, 11, 12, 1011, 1012);
         holdsAre("on all strings", pair(tuned(0, 0, 0, 0), 1, 3), 0, 11, 12, 1011, 1012, 2011, 2012);
-        due("the most there can be", pair(tuned(0, 1, 0, 1), 8, 9).of(0, 0, 5), 48);
+    }
+
+    // The most HOLDS that a NOTE can have are 51, seventeen on each two STRINGS side by side: nine with
+    // both 6 above, and eight with one 12 above beside the open one.
+    private static void theMostHolds() {
+        int[] greaterStopped = {14, 14, 18, 18, 23, 37, 42, 56, 60, 61, 70, 70, 80, 90, 100, 110, 120};
+        int[] greaterOpen = {14, 14, 18, 18, 23, 37, 42, 56, 61, 69, 74, 78, 83, 97, 102, 116, 121};
+        int[] all = new int[51];
+        for (int i = 0; i < 17; i++) {
+            all[i] = greaterStopped[i];
+            all[17 + i] = 1000 + greaterOpen[i];
+            all[34 + i] = 2000 + greaterStopped[i];
+        }
+        FourStrings x = pair(tuned(6, 0, 6, 0), 6, 12);
+        holdsAre("51", x, 0, all);
+        FourStrings full = new FourStrings();
+        for (int s = 0; s <= 3; s++) {
+            full.tune(s, s % 2 == 0 ? 6 : 0);
+        }
+        for (int n = 0; n < 12; n++) {
+            pair(full, 6, 12);
+        }
+        due("twelve notes of 51", full.hard(0), 0);
+        due("the last has as many", full.of(0, 11, 5), 51);
+        due("the last one's last", full.hold(0, 11, 50), 2120);
+        due("and no more", full.hold(0, 11, 51), NONE);
     }
 
     // Where both FINGERS are above 0 they are of one HAND.
@@ -655,6 +680,7 @@ public final class TermsBoundsTest {
         hands();
         highestHolds();
         sideBySide();
+        theMostHolds();
         oneHand();
         unlikeFingersOrTheSame();
         handOfADoubleStop();
